@@ -5,7 +5,7 @@ public final class LawfulSums {
     public static final int BAD = -1, NOT = -2, FULL = -3, STATE = -5, VOID = -2000000000;
 
     private static final int NOTHING_THERE = -11, OTHER_KIND = -12, NO_PLACE = -13, SIZE_BELOW = -14;
-    private static final int BILLION = 1000000000, HALF = 1000000, WALKED = 100000;
+    private static final int BILLION = 1000000000, MILLION = 1000000, WALKED = 100000;
 
     private final Numbers numbers = new Numbers();
     private final Laws laws = new Laws(numbers);
@@ -52,11 +52,11 @@ public final class LawfulSums {
     }
 
     private static boolean isBookSum(int hi, int lo) {
-        return within(hi, 0, HALF - 1) && within(lo, 0, HALF - 1);
+        return within(hi, 0, MILLION - 1) && within(lo, 0, MILLION - 1);
     }
 
     private static long bookSum(int hi, int lo) {
-        return (long) hi * HALF + lo;
+        return (long) hi * MILLION + lo;
     }
 
     public int parts(int n, int i) {
@@ -160,7 +160,7 @@ public final class LawfulSums {
         if (what == 2) {
             return laws.nearest(n);
         }
-        return what == 0 ? laws.atLeast(n) : laws.atMost(n);
+        return what == 0 ? laws.leastFrom(n) : laws.greatestTo(n);
     }
 
     public int many(int a, int b) {
@@ -228,7 +228,7 @@ public final class LawfulSums {
         }
         int now = r;
         for (int year = 0; year < years; year++) {
-            now = laws.atLeast(now + Math.max(1, now / 10));
+            now = laws.leastFrom(now + Math.max(1, now / 10));
         }
         return now;
     }
@@ -237,14 +237,14 @@ public final class LawfulSums {
         if (!within(n, 0, BILLION)) {
             return BAD;
         }
-        return laws.atMost(n / 10);
+        return laws.greatestTo(n / 10);
     }
 
     public int rounded(int n, int paid) {
         if (!within(n, 0, BILLION) || !within(paid, 0, 1)) {
             return BAD;
         }
-        int becomes = paid == 1 ? laws.atLeast(n) : laws.atMost(n);
+        int becomes = paid == 1 ? laws.leastFrom(n) : laws.greatestTo(n);
         return becomes == NOT ? NOT : Math.abs(becomes - n);
     }
 
@@ -411,7 +411,6 @@ public final class LawfulSums {
             return (whole[n >> 5] >> (n & 31) & 1) == 1;
         }
 
-        /** Whether n (up to 10^12 + 2) is 2 or more and does not part. */
         boolean isWhole(long n) {
             if (n < 2) {
                 return false;
@@ -427,14 +426,12 @@ public final class LawfulSums {
             return true;
         }
 
-        /** What stands beside the least part of n, which parts; some whole one, if it is whole for sure. */
         static long besideLeast(long n) {
             long small = smallPart(n, CUBE_ROOT);
-            // Three parts that are all above the cube root would make more than n: it has two.
+            // Three parts above the cube root would make more than n: what stands there is whole, as 2 is.
             return small == 0 ? 2 : n / small;
         }
 
-        /** The least part of n (2 .. 10^12). */
         long leastPart(long n) {
             if (isWhole(n)) {
                 return n;
@@ -443,7 +440,7 @@ public final class LawfulSums {
             return small == 0 ? n : small;
         }
 
-        /** The least part of n that is about most or less; 0 if there is none. n parts. */
+        /** n is told to part: without that, n itself could be its small part. 0: none. */
         private static long smallPart(long n, int most) {
             if (n % 2 == 0) {
                 return 2;
@@ -462,7 +459,6 @@ public final class LawfulSums {
             return 0;
         }
 
-        /** Lists the parts of n (2 .. 10^9): how many. */
         int listParts(int n) {
             int many = 0;
             long left = n;
@@ -491,7 +487,7 @@ public final class LawfulSums {
             return NOT;
         }
 
-        /** Whether g proves n, with the parts of n less 1 listed. */
+        /** The parts of n less 1 are listed ahead of it, once for all g. */
         boolean proves(int n, int g, int many) {
             if (power(g, n - 1, n) != 1) {
                 return false;
@@ -571,8 +567,7 @@ public final class LawfulSums {
             }
         }
 
-        /** NEXT. */
-        int atLeast(int n) {
+        int leastFrom(int n) {
             for (int m = Math.max(n, 2); m <= NEXT_TO; m++) {
                 if (isLawful(m)) {
                     return m;
@@ -581,8 +576,7 @@ public final class LawfulSums {
             return NOT;
         }
 
-        /** LAST. */
-        int atMost(int n) {
+        int greatestTo(int n) {
             for (int m = n; m >= 2; m--) {
                 if (isLawful(m)) {
                     return m;
@@ -592,7 +586,7 @@ public final class LawfulSums {
         }
 
         int nearest(int n) {
-            int above = atLeast(n), below = atMost(n);
+            int above = leastFrom(n), below = greatestTo(n);
             if (above == NOT || below == NOT) {
                 return Math.max(above, below);
             }
@@ -708,7 +702,6 @@ public final class LawfulSums {
             this.laws = laws;
         }
 
-        /** The difference, or NOT. */
         int divide(int n, int k) {
             among = k;
             apart = FAR;
@@ -766,12 +759,11 @@ public final class LawfulSums {
             return done;
         }
 
-        /** Without a CHANGE. */
+        /** Nothing to undo: what comes is no CHANGE. */
         void begin(int p, int v) {
             held[p] = v;
         }
 
-        /** What it was. */
         int become(int p, int v) {
             int was = held[p];
             if (v == was) {
@@ -963,7 +955,7 @@ public final class LawfulSums {
             int more = 0;
             for (int p = 0; p < PEOPLE * PEOPLE; p++) {
                 if (isUnlawful(p)) {
-                    int next = laws.atLeast(ledger.at(p));
+                    int next = laws.leastFrom(ledger.at(p));
                     if (next == NOT) {
                         return NOT;
                     }
@@ -1006,7 +998,6 @@ public final class LawfulSums {
             ledger.become(place(a, b), of(a, b) - v);
         }
 
-        /** How many payments settle all nets; of them all, or the lawful ones. */
         int payments(boolean lawfulAlone) {
             for (int one = 0; one < PEOPLE; one++) {
                 nets[one] = net(one);
@@ -1221,9 +1212,8 @@ public final class LawfulSums {
             return brings;
         }
 
-        /** Whether there is a lawful price from a to b. */
         boolean choose(int a, int b) {
-            int last = laws.atMost(a - 1), many = 0;
+            int last = laws.greatestTo(a - 1), many = 0;
             for (int p = a; p <= b; p++) {
                 if (laws.isLawful(p)) {
                     many++;
@@ -1353,7 +1343,6 @@ public final class LawfulSums {
             return size - 1;
         }
 
-        /** The KIND of a payment that is kept. */
         int kindOf(int body) {
             return kinds[body];
         }
@@ -1378,7 +1367,6 @@ public final class LawfulSums {
             return run(act, kinds[body], x, 0);
         }
 
-        /** Runs the body that a KIND, or the next one above it, has for an act. */
         private int run(int act, int kind, int x, int depth) {
             if (depth > DEEPEST) {
                 return 0;

@@ -48,6 +48,16 @@ public final class DebtsTest {
         Due.same("26 owes(-2)", x.owes(-2), 11);
         Due.same("26 owes(-3)", x.owes(-3), 0);
         Due.same("26 owes(-8)", x.owes(-8), -1);
+        for (int ab = 1; ab < 77; ab++) {
+            if (ab / 10 != ab % 10 && ab % 10 < 8) {
+                x.debt(ab, 100 + ab);
+            }
+        }
+        for (int ab = 1; ab < 77; ab++) {
+            if (ab / 10 != ab % 10 && ab % 10 < 8) {
+                Due.same("26 owes(" + ab + ")", x.owes(ab), 100 + ab);
+            }
+        }
         for (int ab : new int[] {0, 11, 77, 8, 80, 78, 99, 100, -9, -10, -12, Integer.MIN_VALUE, Integer.MAX_VALUE}) {
             Due.same("26 owes(" + ab + ")", x.owes(ab), VOID);
         }
@@ -55,7 +65,9 @@ public final class DebtsTest {
 
     private static void judge() {
         LawfulSums x = new LawfulSums();
-        Due.same("27 judge()", x.judge(), LawfulSums.NOT);
+        x.coin(4, 4);
+        Due.same("27 a coin is no debt", x.judge(), LawfulSums.NOT);
+        Due.same("29 a coin is no debt", x.struck(), 0);
         x.debt(76, 1);
         Due.same("27 judge()", x.judge(), 76);
         x.debt(20, 4);
@@ -72,14 +84,18 @@ public final class DebtsTest {
         Due.same("27 by law 1", x.judge(), 76);
     }
 
-    private static void round() {
-        LawfulSums x = new LawfulSums();
+    private static void sixDebts(LawfulSums x) {
         x.debt(1, 10);
         x.debt(12, 7);
         x.debt(20, 8);
         x.debt(34, 97);
         x.debt(45, 50);
         x.debt(53, 60);
+    }
+
+    private static void round() {
+        LawfulSums x = new LawfulSums();
+        sixDebts(x);
         Due.same("28 round()", x.round(), 2);
         int[][] left = {{1, 3}, {12, 0}, {20, 1}, {34, 47}, {45, 0}, {53, 10}};
         for (int[] l : left) {
@@ -119,6 +135,11 @@ public final class DebtsTest {
         Due.same("28 owes(30)", x.owes(30), 9);
         Due.same("28 owes(12)", x.owes(12), 0);
         Due.same("28 owes(13)", x.owes(13), 4);
+        x.debt(1, 1);
+        x.debt(12, 1);
+        Due.same("28 a round of 1", x.round(), 1);
+        Due.same("28 owes(1)", x.owes(1), 0);
+        Due.same("28 owes(20)", x.owes(20), 4);
         LawfulSums y = new LawfulSums();
         y.debt(12, 5);
         y.debt(20, 5);
@@ -149,12 +170,7 @@ public final class DebtsTest {
 
     private static void settle() {
         LawfulSums x = new LawfulSums();
-        x.debt(1, 10);
-        x.debt(12, 7);
-        x.debt(20, 8);
-        x.debt(34, 97);
-        x.debt(45, 50);
-        x.debt(53, 60);
+        sixDebts(x);
         Due.same("30 settle(0)", x.settle(0), 4); // 37, 10, 2, 1
         Due.same("30 settle(1)", x.settle(1), 2);
         Due.same("30 in thought", x.owes(34), 97);

@@ -143,8 +143,9 @@ public final class SellersTest {
     private static void lines() {
         LawfulSums x = new LawfulSums();
         String[] text = {"0?5", "1?5", "0?5;6", "1?5;6", "0?5;0?6", "0?5;0?6;7", "5;6", "0;6", "0-3?5;6", "1?0;6", "p<90?1;p<100?2;3",
-            "0?1;0?2;1?3;1?4", "0?p;g"};
-        int[] want = {0, 5, 6, 5, 0, 7, 5, 0, 5, 0, 2, 3, 8};
+            "0?1;0?2;1?3;1?4", "0?p;g", "1?0|3", "1?((((((p))))))",
+            "0?1;0?2;0?3;0?4;0?5;0?6;7", "0?5"};
+        int[] want = {0, 5, 6, 5, 0, 7, 5, 0, 5, 0, 2, 3, 8, 1, 97, 7, 0};
         for (int i = 0; i < text.length; i++) {
             brings(x, text[i], want[i]);
         }
@@ -168,6 +169,11 @@ public final class SellersTest {
         Due.told(x, "h*1000-p");
         Due.same("20 h", x.chosen(90, 330, 0), 307);
         Due.same("20 h", x.chosen(90, 330, 1), 2693);
+        Due.told(x, "h");
+        int[][] cut = {{97, 0}, {101, 1}, {199, 1}, {307, 3}, {9973, 99}, {10007, 100}, {99989, 999}, {99991, 999}};
+        for (int[] c : cut) {
+            Due.same("20 h of " + c[0], x.chosen(c[0], c[0], 1), c[1]);
+        }
         x.force(3);
         Due.told(x, "g");
         Due.same("20 g by the law in force", x.chosen(101, 101, 1), 28);
@@ -257,6 +263,11 @@ public final class SellersTest {
         sharesAre(x, 600, 2, 149, 149, 151, 151);
         sharesAre(x, 24, 2, 5, 5, 7, 7);
         sharesAre(x, 7, 1, 2, 2, 3);
+        // Other rows differ by as much, 7 7 13 in the first: the least share first.
+        sharesAre(x, 27, 6, 5, 11, 11);
+        sharesAre(x, 19, 5, 2, 3, 7, 7);
+        sharesAre(x, 33, 11, 2, 5, 13, 13);
+        sharesAre(x, 34, 6, 5, 7, 11, 11);
         for (int i = -1; i < 2; i++) {
             Due.same("24 shares(3, 2, " + i + ")", x.shares(3, 2, i), LawfulSums.NOT);
             Due.same("24 shares(1, 4, " + i + ")", x.shares(1, 4, i), LawfulSums.NOT);
@@ -266,6 +277,8 @@ public final class SellersTest {
         sharesAre(x, 40, 10, 15, 25);
         x.force(2);
         sharesAre(x, 300, 0, 100, 100, 100);
+        sharesAre(x, 33, 3, 9, 12, 12);
+        sharesAre(x, 45, 3, 9, 12, 12, 12);
         int[][] bad = {{0, 2, -1}, {601, 2, -1}, {4, 1, -1}, {4, 5, -1}, {4, 2, -2}, {4, 2, 2}, {4, 2, Integer.MIN_VALUE}};
         for (int[] b : bad) {
             Due.same("24 shares(" + b[0] + ", " + b[1] + ", " + b[2] + ")", x.shares(b[0], b[1], b[2]), LawfulSums.BAD);

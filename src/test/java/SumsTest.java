@@ -186,6 +186,8 @@ public final class SumsTest {
         x.force(3);
         Due.same("13 law 3 change(1)", x.change(1), -2);
         Due.same("13 law 3 change(2)", x.change(2), 3);
+        Due.same("13 law 3 change(484)", x.change(484), 1303);
+        Due.same("13 law 3, 2269 is too much to give back", x.change(1402), -2);
         Due.same("13 change(0)", x.change(0), LawfulSums.BAD);
         Due.same("13 change(2001)", x.change(2001), LawfulSums.BAD);
         Due.same("13 change(-1)", x.change(-1), LawfulSums.BAD);
