@@ -6,9 +6,12 @@ public final class AgainstPlainTest {
     private Plain y;
 
     public static void main(String[] args) {
-        for (int run = 0; run < 400; run++) {
+        for (int run = 0; run < 1000; run++) {
             seed = 7919L * run + 11;
             new AgainstPlainTest().run(run);
+        }
+        for (int law = 0; law < 4; law++) {
+            new AgainstPlainTest().all(law);
         }
         Due.end("AgainstPlainTest");
     }
@@ -44,6 +47,31 @@ public final class AgainstPlainTest {
                 case 3: sellers(name); break;
                 case 4: debts(name); break;
                 default: acts(name);
+            }
+        }
+    }
+
+    /** Every sum of some calls; an object of its own for each few hundred of them. */
+    private void all(int law) {
+        y = new Plain();
+        y.force(law);
+        for (int n = 0; n <= 2001; n++) {
+            if (n % 20 == 0) {
+                x = new LawfulSums();
+                x.force(law);
+            }
+            String of = "law " + law + " " + n + " ";
+            Due.same(of + "lawful", x.lawful(0, n), y.lawful(0, n));
+            Due.same(of + "change", x.change(n), y.change(n));
+            Due.same(of + "third", x.third(n), y.third(n));
+            Due.same(of + "nearest", x.next(n, 2), y.next(n, 2));
+            for (int i = -1; i < 4; i++) {
+                Due.same(of + "fewest " + i, x.fewest(n, i), y.fewest(n, i));
+            }
+            for (int k = 2; k < 5 && n <= 130; k++) {
+                for (int i = -1; i < k; i++) {
+                    Due.same(of + "shares " + k + " " + i, x.shares(n, k, i), y.shares(n, k, i));
+                }
             }
         }
     }

@@ -37,7 +37,16 @@ final class Plain {
         return parts;
     }
 
+    /** What is lawful among the least sums, by each law, as it was found out: 0 not yet, 1 no, 2 yes. */
+    private static final byte[][] KNOWN = new byte[4][5000];
+
     boolean isLawful(long n) {
+        if (n < 0 || n >= 5000) return findOut(n);
+        if (KNOWN[law][(int) n] == 0) KNOWN[law][(int) n] = (byte) (findOut(n) ? 2 : 1);
+        return KNOWN[law][(int) n] == 2;
+    }
+
+    private boolean findOut(long n) {
         if (n < 2) return false;
         if (law == 0) return whole(n);
         if (law == 1) return partsOf(n).size() == 2;
