@@ -852,7 +852,6 @@ public final class LawfulSums {
             return ledger.at(Ledger.WORTHS + i);
         }
 
-
         int fewestFor(int n) {
             Arrays.fill(few[size], NONE);
             few[size][0] = 0;

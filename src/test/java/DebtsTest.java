@@ -8,6 +8,7 @@ public final class DebtsTest {
         judge();
         round();
         roundsOfLikeOnes();
+        manyRounds();
         struck();
         settle();
         looked();
@@ -150,6 +151,39 @@ public final class DebtsTest {
         y.undo();
         Due.same("28 and 1 to 2 ahead of it", y.owes(12), 5);
         Due.same("28 0 to 1 came first", y.owes(1), 0);
+    }
+
+    /** 0 and 1, 2 and 3, 4 and 5 owe each other as many rounds as there are people behind them, by one each. */
+    private static void manyRounds() {
+        LawfulSums x = new LawfulSums();
+        int calls = 0;
+        for (int a = 0; a < 8; a++) {
+            for (int b = 0; b < 8; b++) {
+                boolean couple = a / 2 == b / 2;
+                if (a != b) {
+                    x.debt(10 * a + b, couple ? 6 - a / 2 * 2 : 1);
+                    calls += couple && a > 5 ? 0 : 1;
+                }
+            }
+        }
+        Due.same("25 debts", x.count(2), calls);
+        Due.same("28 again and again till there is none", x.round(), 24);
+        Due.same("28 in deed", x.count(2), 0);
+        Due.same("28 of 72 changes 40 are kept", x.count(4), 40);
+        for (int left = 39; left >= 0; left--) {
+            Due.same("32 undo()", x.undo(), left);
+        }
+        Due.same("32 undo()", x.undo(), LawfulSums.STATE);
+        // Ten rounds and two of the three changes of 0 6 1 are not among the 40.
+        int[][] left = {{1, 0}, {10, 2}, {5, 0}, {51, 0}, {6, 0}, {61, 0}, {7, 1}, {71, 1}, {23, 4}, {32, 4}, {45, 2}, {57, 1}};
+        for (int[] l : left) {
+            Due.same("32 owes(" + l[0] + ") behind 40 undone", x.owes(l[0]), l[1]);
+        }
+        for (int more = 39; more >= 0; more--) {
+            Due.same("33 redo()", x.redo(), more);
+        }
+        Due.same("33 redo()", x.redo(), LawfulSums.STATE);
+        Due.same("33 all are done again", x.count(2), 0);
     }
 
     private static void struck() {
