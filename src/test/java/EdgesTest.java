@@ -6,8 +6,10 @@ import java.nio.file.Path;
 import java.util.ArrayList;
 import java.util.Arrays;
 import java.util.HashMap;
+import java.util.HashSet;
 import java.util.List;
 import java.util.Map;
+import java.util.Set;
 import java.util.regex.Matcher;
 import java.util.regex.Pattern;
 import java.util.stream.Collectors;
@@ -27,6 +29,8 @@ public final class EdgesTest {
     private static final List<String> TAKES_AWAY = Arrays.asList("seller", "act");
     private static final int LAST_CALL = 512;
     private static final Map<String, Method> FACE = new HashMap<>();
+    /** The promises that the titles of the runs begin with. */
+    private static final Set<Integer> PROMISES = new HashSet<>();
 
     private final String title;
     private final List<Call> made = new ArrayList<>();
@@ -81,6 +85,9 @@ public final class EdgesTest {
         for (Path file : files()) {
             runAll(Files.readAllLines(file));
         }
+        for (int promise = 1; promise <= 43; promise++) {
+            Due.holds("promise " + promise + " has a run", PROMISES.contains(promise));
+        }
         Due.end("EdgesTest");
     }
 
@@ -97,6 +104,7 @@ public final class EdgesTest {
             if (line.startsWith("== ")) {
                 Due.holds("a run has calls, ahead of " + line, run == null || calls > 0);
                 run = new EdgesTest(line.substring(3));
+                PROMISES.add(Integer.parseInt(run.title.split("\\D")[0]));
                 calls = 0;
             } else if (!line.isEmpty() && !line.startsWith("#")) {
                 run.read(line);
