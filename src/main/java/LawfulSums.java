@@ -811,14 +811,14 @@ public final class LawfulSums {
     /** COINS, and the fewest of them that pay a sum. */
     private static final class Purse {
         static final int PAID_TO = 2000;
-        private static final int MOST = 16, NONE = 1000000;
+        private static final int MOST = 16;
+        /** Each coin costs ONE less a digit of its own, coin 0 the first: fewest cost least, of as many those with most of coin 0. */
+        private static final long ONE = 10000000000000000L, NONE = Long.MAX_VALUE / 2;
 
         private final Laws laws;
         private final Ledger ledger;
-        /** few[i][n]: the fewest of the coins from i on that make n. */
-        private final int[][] few = new int[MOST + 1][PAID_TO + 1];
-        /** How many of each coin may be paid by the law in force when fewestFor was asked. */
-        private final int[] usable = new int[MOST];
+        /** What each sum costs at least, as it was when fewestFor was asked. */
+        private final long[] costs = new long[PAID_TO + 1];
         private int size;
 
         Purse(Laws laws, Ledger ledger) {
@@ -848,48 +848,40 @@ public final class LawfulSums {
             return size - 1;
         }
 
-        private int worth(int i) {
-            return ledger.at(Ledger.WORTHS + i);
-        }
-
         int fewestFor(int n) {
-            Arrays.fill(few[size], NONE);
-            few[size][0] = 0;
-            for (int i = size - 1; i >= 0; i--) {
-                int worth = worth(i);
-                usable[i] = laws.isLawful(worth) ? ledger.at(Ledger.NUMBERS + i) : 0;
-                for (int m = 0; m <= n; m++) {
-                    few[i][m] = fewestFrom(i, m, worth);
+            Arrays.fill(costs, NONE);
+            costs[0] = 0;
+            long digit = ONE;
+            for (int i = 0; i < size; i++) {
+                digit /= 10;
+                int worth = ledger.at(Ledger.WORTHS + i);
+                if (laws.isLawful(worth)) {
+                    payWith(worth, ledger.at(Ledger.NUMBERS + i), ONE - digit, n);
                 }
             }
-            return few[0][n] < NONE ? few[0][n] : NOT;
+            return costs[n] < NONE ? inAll(n) : NOT;
         }
 
-        private int fewestFrom(int i, int m, int worth) {
-            int least = few[i + 1][m];
-            for (int c = 1; c <= usable[i] && c * worth <= m; c++) {
-                least = Math.min(least, few[i + 1][m - c * worth] + c);
+        /** From n down: what stands below m is paid without this coin until then. */
+        private void payWith(int worth, int many, long cost, int n) {
+            for (int m = n; m >= worth; m--) {
+                for (int c = 1; c <= many && c * worth <= m; c++) {
+                    costs[m] = Math.min(costs[m], costs[m - c * worth] + c * cost);
+                }
             }
-            return least;
+        }
+
+        private int inAll(int n) {
+            return (int) ((costs[n] + ONE - 1) / ONE);
         }
 
         /** Of coin i so many; fewestFor(n) has told that n can be paid. */
         int fewestOf(int n, int i) {
-            int left = n;
-            for (int j = 0; j < i; j++) {
-                left -= mostOf(j, left) * worth(j);
+            long digits = inAll(n) * ONE - costs[n];
+            for (int behind = i + 1; behind < MOST; behind++) {
+                digits /= 10;
             }
-            return mostOf(i, left);
-        }
-
-        private int mostOf(int i, int m) {
-            for (int c = usable[i]; c > 0; c--) {
-                int left = m - c * worth(i);
-                if (left >= 0 && few[i + 1][left] + c == few[i][m]) {
-                    return c;
-                }
-            }
-            return 0;
+            return (int) (digits % 10);
         }
     }
 

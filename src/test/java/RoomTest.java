@@ -5,15 +5,19 @@ import java.lang.reflect.Modifier;
 import java.util.IdentityHashMap;
 import java.util.Map;
 
-/** What one object takes of the room that all calls of a run live in: its rows are made once, and calls make nothing. */
+/**
+ * What one object takes of the room that all calls of a run live in: its rows are made once, and calls make nothing. Making an
+ * object is the dearest call: even a run of such calls alone has room.
+ */
 public final class RoomTest {
+    private static final int CALLS = 512, ROOM_OF_OBJECTS = 600000, ROOM_OF_ELEMENTS = 7300000;
     private static final Map<Object, Object> SEEN = new IdentityHashMap<>();
     private static long elements;
 
     public static void main(String[] args) throws Exception {
         weigh(new LawfulSums());
-        Due.holds("an object has " + SEEN.size() + " objects in it", SEEN.size() < 200);
-        Due.holds("an object has " + elements + " fields and elements", elements < 60000);
+        Due.holds("an object has " + SEEN.size() + " objects in it", SEEN.size() * CALLS < ROOM_OF_OBJECTS);
+        Due.holds("an object has " + elements + " fields and elements", elements * CALLS < ROOM_OF_ELEMENTS);
         callsMakeNothing();
         Due.end("RoomTest");
     }
